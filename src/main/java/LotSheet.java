@@ -612,7 +612,10 @@ public final class LotSheet {
             boolean roomHere = pages > 0 && usedOn[pages - 1] + lines <= height;
             // Each page has a lot at least, so there are never more pages than lots.
             if (!roomHere && pages < MOST_LOTS) {
-                beginPage(lot);
+                usedOn[pages] = 0;
+                lotsOn[pages] = 0;
+                firstOn[pages] = lot;
+                pages++;
             }
             int page = pages - 1;
             printedLots++;
@@ -622,13 +625,6 @@ public final class LotSheet {
             lineOf[lot] = usedOn[page];
             usedOn[page] += lines;
             lotsOn[page]++;
-        }
-
-        private void beginPage(int lot) {
-            usedOn[pages] = 0;
-            lotsOn[pages] = 0;
-            firstOn[pages] = lot;
-            pages++;
         }
 
         int gatherings() {

@@ -54,6 +54,7 @@ public final class PromiseTests {
         check.test("promise 15: seller", this::seller);
         check.test("promise 16: through", this::through);
         check.test("promise 17: filled", this::filled);
+        check.test("promises 5 to 17: a bill as full as can be", this::fullBill);
     }
 
     private void changes() {
@@ -164,6 +165,9 @@ public final class PromiseTests {
         check.same("slipped", x.state(5), 2);
         Sheets.load(x, FIVE);
         check.same("slipped after load", x.state(5), 0);
+        check.same("costs and slip", Sheets.load(x, "bill 4;costs 1 2 3 4 5;slip 5;"), 0);
+        check.same("costs and slip once more", Sheets.load(x, "bill 4;costs 1 2 3 4 5;slip 6;"), 0);
+        check.same("room", x.state(11), 6);
     }
 
     private void loadWrongLengths() {
@@ -225,6 +229,12 @@ public final class PromiseTests {
         wrong(code, 0, "bil 20;");
         wrong(code, 0, "bills 20;");
         wrong(code, 0, "billlot 20;");
+        wrong(code, 0, "billa20;");
+        wrong(code, 0, "billz20;");
+        wrong(code, 4, "bill`20;");
+        wrong(code, 4, "bill{20;");
+        wrong(code, 7, "bill 20/;");
+        wrong(code, 7, "bill 20:;");
         wrong(code, 0, "Bill 20;");
         wrong(code, 2, "  ;");
         wrong(code, 0, "20;");
@@ -333,6 +343,9 @@ public final class PromiseTests {
         states("carried", x, 4, 5, 4, 4, 2, 2, 3, 1, 12, 470, 2, 3);
         check.same("carry(3)", x.carry(3), 23);
         states("carried again", x, 4, 5, 4, 4, 0, 0, 3, 1, 35, 470, 2, 3);
+        LotSheet first = Sheets.of("bill 4;lot 1 1 1 in;");
+        first.carry(0);
+        check.same("the first lot is slipped", first.state(5), 1);
         check.raises("state(12)", ARGUMENT, () -> x.state(12));
         check.raises("state(-1)", ARGUMENT, () -> x.state(-1));
         String page = "lot 4 1 1;";
@@ -392,6 +405,9 @@ public final class PromiseTests {
         check.same("lots that are printed", z.page(0, 0), 2);
         check.same("the first printed lot", z.page(0, 1), 1);
         check.same("their estimates", z.page(0, 3), 13);
+        z.carry(1);
+        check.same("lots that are printed then", z.page(0, 0), 3);
+        check.same("the first printed lot then", z.page(0, 1), 0);
     }
 
     private void standing() {
@@ -578,6 +594,28 @@ public final class PromiseTests {
         check.sameDouble("full", Sheets.of("bill 4;lot 4 1 1;").filled(), 1.0);
     }
 
+    private void fullBill() {
+        LotSheet x = Sheets.of("bill 9;" + times(16, "lot 9 9999 9;") + times(8, "lot 9 9 9out;"));
+        states("full", x, 9, 24, 24, 16, 8, 0, 24, 6, 0, 159984, 0, 3);
+        facts(x, 23, 9, 9, 9, 1, 0, 0, 24, 23, 0);
+        check.same("page(23, 1)", x.page(23, 1), 23);
+        check.raises("page(24, 0)", INDEX, () -> x.page(24, 0));
+        check.raises("lot(24, 0)", INDEX, () -> x.lot(24, 0));
+        check.raises("pays(24)", INDEX, () -> x.pays(24));
+        check.raises("different(8)", ELEMENT, () -> x.different(8));
+        check.raises("numbered(25)", ELEMENT, () -> x.numbered(25));
+        check.raises("dearest(16)", ELEMENT, () -> x.dearest(16));
+        check.raises("through(216)", ELEMENT, () -> x.through(216));
+        check.raises("choice(256, 0)", ARGUMENT, () -> x.choice(256, 0));
+        check.same("seller(9, 2)", x.seller(9, 2), 216);
+        check.same("standing(23, 8)", x.standing(23, 8), 238);
+        check.same("through(215)", x.through(215), 23);
+        check.sameDouble("filled()", x.filled(), 1.0);
+        figures(x, 255, 72 + 40 + 20, 72, 8, 2, 0, 0, 16);
+        figures(x, 0, 24 + 16, 0, 0, 0, 3, 8, 24);
+        check.same("best()", x.best(), 0);
+    }
+
     // ---- promises 18 to 25
 
     private void withdraw() {
@@ -715,6 +753,12 @@ public final class PromiseTests {
     private void undo() {
         LotSheet x = new LotSheet();
         check.same("none", x.undo(), -1);
+        long sum = x.checksum();
+        Sheets.load(x, FIVE);
+        check.same("the only change", x.undo(), 0);
+        check.same("all as it was", x.checksum(), sum);
+        check.raises("no pages", INDEX, () -> x.page(0, 0));
+        check.raises("no different lots", ELEMENT, () -> x.different(0));
         for (int n = 1; n <= 12; n++) {
             x.setCost(0, n);
         }
