@@ -70,6 +70,10 @@ public final class FaceTests {
             }
         }
         check.isTrue("the face is " + got, got.equals(new TreeSet<>(Arrays.asList(FACE))));
+        for (Method m : LotSheet.class.getDeclaredMethods()) {
+            check.isTrue(m + " bears a public name", Modifier.isPublic(m.getModifiers())
+                    || !publicNames.contains(m.getName()));
+        }
         for (Class<?> inside : LotSheet.class.getDeclaredClasses()) {
             for (Method m : inside.getDeclaredMethods()) {
                 check.isTrue(m + " bears a public name", !publicNames.contains(m.getName()));

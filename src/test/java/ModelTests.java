@@ -42,7 +42,7 @@ public final class ModelTests {
         Model model = new Model();
         StringBuilder told = new StringBuilder();
         int calls = 0;
-        while (calls < 500) {
+        while (calls < 480) {
             if (calls == 0 || random.nextInt(kind == 2 ? 6 : 60) == 0) {
                 String text = text(kind, random);
                 int[] w = Sheets.words(text);
