@@ -405,9 +405,12 @@ public final class LotSheet {
             System.arraycopy(other.lines, 0, lines, 0, MOST_LOTS);
             System.arraycopy(other.estimates, 0, estimates, 0, MOST_LOTS);
             System.arraycopy(other.sellers, 0, sellers, 0, MOST_LOTS);
-            System.arraycopy(other.printed, 0, printed, 0, MOST_LOTS);
-            System.arraycopy(other.wanted, 0, wanted, 0, MOST_LOTS);
-            System.arraycopy(other.slipped, 0, slipped, 0, MOST_LOTS);
+            // By LANGUAGE.md's rule 4 arraycopy is for arrays of numbers, which these are not.
+            for (int i = 0; i < MOST_LOTS; i++) {
+                printed[i] = other.printed[i];
+                wanted[i] = other.wanted[i];
+                slipped[i] = other.slipped[i];
+            }
         }
 
         /** Puts in a lot that is neither printed nor wanted, if there is room for one. */
@@ -722,7 +725,9 @@ public final class LotSheet {
 
         /** Fills the figures for a choice, ahead being the layout of the bill as it is. */
         void measure(Bill bill, Layout ahead, int choice) {
-            System.arraycopy(bill.printed, 0, printedBehind, 0, MOST_LOTS);
+            for (int i = 0; i < MOST_LOTS; i++) {
+                printedBehind[i] = bill.printed[i];
+            }
             figures[ENTRIES] = 0;
             for (int j = 0; j < count; j++) {
                 int lot = lots[j];

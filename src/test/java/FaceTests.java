@@ -4,7 +4,9 @@ import java.lang.reflect.Method;
 import java.lang.reflect.Modifier;
 import java.nio.file.Files;
 import java.nio.file.Path;
+import java.util.ArrayList;
 import java.util.Arrays;
+import java.util.List;
 import java.util.Set;
 import java.util.TreeSet;
 import java.util.regex.Matcher;
@@ -51,6 +53,8 @@ public final class FaceTests {
         check.test("constructor and class", this::constructor);
         check.test("what the source may not hold", this::source);
         check.test("methods stay short", this::shortMethods);
+        check.test("rule 4: arraycopy is for arrays of numbers", this::copiedArrays);
+        check.test("rule 11: parameters, classes and fields", this::sizes);
         check.end();
     }
 
@@ -123,6 +127,43 @@ public final class FaceTests {
         }
         Matcher fields = Pattern.compile("(?m)^\\s*(public|private|)\\s*static (?!final )[^(]*[;=]").matcher(text);
         check.isTrue("a static field is not final", !fields.find());
+    }
+
+    private void copiedArrays() throws Exception {
+        String text = sourceText();
+        Set<String> arraysOfNumbers = new TreeSet<>();
+        Set<String> otherArrays = new TreeSet<>();
+        Matcher array = Pattern.compile("(\\w+)\\[\\] (\\w+)").matcher(text);
+        while (array.find()) {
+            boolean ofNumbers = array.group(1).matches("int|long|short|byte|double|float");
+            (ofNumbers ? arraysOfNumbers : otherArrays).add(array.group(2));
+        }
+        Matcher copy = Pattern.compile("arraycopy\\(([^,]+),[^,]+,([^,]+),").matcher(text);
+        while (copy.find()) {
+            for (String copied : new String[] {copy.group(1), copy.group(2)}) {
+                String name = copied.trim().replaceAll(".*\\.", "");
+                check.isTrue("arraycopy of " + copied.trim(),
+                        arraysOfNumbers.contains(name) && !otherArrays.contains(name));
+            }
+        }
+    }
+
+    private void sizes() {
+        List<Class<?>> classes = new ArrayList<>(Arrays.asList(LotSheet.class.getDeclaredClasses()));
+        classes.add(LotSheet.class);
+        check.isTrue(classes.size() + " classes", classes.size() <= 12);
+        for (Class<?> c : classes) {
+            int fields = 0;
+            for (Field f : c.getDeclaredFields()) {
+                fields += Modifier.isStatic(f.getModifiers()) ? 0 : 1;
+                check.isTrue(f + " is static and not final", !Modifier.isStatic(f.getModifiers())
+                        || Modifier.isFinal(f.getModifiers()));
+            }
+            check.isTrue(c + " has " + fields + " fields", fields <= 20);
+            for (Method m : c.getDeclaredMethods()) {
+                check.isTrue(m + " has more than 7 parameters", m.getParameterCount() <= 7);
+            }
+        }
     }
 
     private void shortMethods() throws Exception {
